@@ -554,9 +554,6 @@ public final class PostChain {
 
         /** The domino of a rule for a configuration; ahead is the symbol ahead of its state. */
         int ofRule(int rule, boolean right, int ahead, boolean atEnd) {
-            if (rule < 0 || rule >= RULES) {
-                return NONE;
-            }
             if (right) {
                 return firstOfRule[rule] + (atEnd ? 1 : 0);
             }
@@ -698,7 +695,11 @@ public final class PostChain {
 
     /**
      * The search. Rows stand in the order in which they are looked at; each is held as the row that
-     * it goes on from, its last domino, and what its longer word has more than the other one.
+     * it goes on from, its last domino, and what its lower word has more than its upper one.
+     *
+     * <p>The upper word is never the longer one here: domino 0 gives the lower word a # more, only
+     * (h # #, #) takes one away, and where it takes the last one away and fits, both words end with
+     * it. So a row is a solution just if its lower word has nothing more.
      */
     private static final class Hunt {
         // One row more than fuel is enough to tell that there is one left.
@@ -707,10 +708,9 @@ public final class PostChain {
         private final int[] from = new int[ROOM];
         private final int[] last = new int[ROOM];
         private final int[] size = new int[ROOM];
-        private final int[] upperAhead = new int[ROOM];
+        private final int[] ahead = new int[ROOM];
         private final char[] more = new char[ROOM * MOST_AHEAD];
-        private final Word top = new Word(MOST_AHEAD);
-        private final Word bottom = new Word(MOST_AHEAD);
+        private final Word open = new Word(MOST_AHEAD);
         private int count;
         private int lookedAt = NONE;
 
@@ -723,18 +723,16 @@ public final class PostChain {
         }
 
         int look(Box box, int fuel) {
-            int limit = Math.min(fuel + 1, ROOM);
             lookedAt = 0;
             count = 0;
-            top.empty();
-            bottom.empty();
+            open.empty();
             keep(NONE, 0, box.get(0));
             for (int at = 0; at < count && at < fuel; at++) {
                 lookedAt = at + 1;
-                if (upperAhead[at] == 0) {
+                if (ahead[at] == 0) {
                     return FOUND;
                 }
-                goOn(at, box, limit);
+                goOn(at, box);
             }
             return lookedAt < count ? OUT : EMPTY;
         }
@@ -754,31 +752,25 @@ public final class PostChain {
         }
 
         /** A beginning of a row that fits fits too, so going on from those that fit finds all. */
-        private void goOn(int at, Box box, int limit) {
-            if (Math.abs(upperAhead[at]) > MOST_AHEAD) {
+        private void goOn(int at, Box box) {
+            if (ahead[at] > MOST_AHEAD) {
                 return;
             }
-            takeUp(at);
-            for (int d = 0; d < box.size() && count < limit; d++) {
+            open.empty();
+            for (int i = 0; i < ahead[at]; i++) {
+                open.add(more[at * MOST_AHEAD + i]);
+            }
+            for (int d = 0; d < box.size() && count < ROOM; d++) {
                 if (fits(box.get(d))) {
                     keep(at, d, box.get(d));
                 }
             }
         }
 
-        private void takeUp(int at) {
-            top.empty();
-            bottom.empty();
-            Word longer = upperAhead[at] > 0 ? top : bottom;
-            for (int i = 0; i < Math.abs(upperAhead[at]); i++) {
-                longer.add(more[at * MOST_AHEAD + i]);
-            }
-        }
-
         private boolean fits(Domino domino) {
-            int shared = Math.min(top.size() + domino.upper.size(), bottom.size() + domino.lower.size());
+            int shared = Math.min(domino.upper.size(), open.size() + domino.lower.size());
             for (int i = 0; i < shared; i++) {
-                if (joined(top, domino.upper, i) != joined(bottom, domino.lower, i)) {
+                if (domino.upper.at(i) != openOr(domino.lower, i)) {
                     return false;
                 }
             }
@@ -786,30 +778,22 @@ public final class PostChain {
         }
 
         private void keep(int before, int number, Domino domino) {
-            int upper = top.size() + domino.upper.size();
-            int lower = bottom.size() + domino.lower.size();
+            int shared = domino.upper.size();
             from[count] = before;
             last[count] = number;
             size[count] = before == NONE ? 1 : size[before] + 1;
-            upperAhead[count] = upper - lower;
-            if (upper > lower) {
-                keepMore(top, domino.upper, lower, upper);
-            } else {
-                keepMore(bottom, domino.lower, upper, lower);
+            ahead[count] = open.size() + domino.lower.size() - shared;
+            // None goes on from a row that is too far ahead, so no more than that needs a place.
+            int kept = Math.min(ahead[count], MOST_AHEAD);
+            for (int i = 0; i < kept; i++) {
+                more[count * MOST_AHEAD + i] = openOr(domino.lower, shared + i);
             }
             count++;
         }
 
-        /** None goes on from a row that is too far ahead, so no more than that needs a place. */
-        private void keepMore(Word start, Word end, int shared, int length) {
-            int kept = Math.min(length - shared, MOST_AHEAD);
-            for (int i = 0; i < kept; i++) {
-                more[count * MOST_AHEAD + i] = joined(start, end, shared + i);
-            }
-        }
-
-        private static char joined(Word start, Word end, int i) {
-            return i < start.size() ? start.at(i) : end.at(i - start.size());
+        /** Character i of what is open with a lower text behind it. */
+        private char openOr(Word lower, int i) {
+            return i < open.size() ? open.at(i) : lower.at(i - open.size());
         }
     }
 }

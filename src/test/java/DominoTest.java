@@ -9,6 +9,7 @@ public final class DominoTest {
         mostDominoes();
         dominoOutside();
         wayTexts();
+        wayAfterChange();
         wayOutside();
         wayRefuses();
         wayIsSolution();
@@ -89,6 +90,16 @@ public final class DominoTest {
         blank.rule(1, 0, 1, false, 4);
         EXPECT.same("left over a blank that stands there", Ask.way(blank),
                 "#/#a00# a0/2b 0/0 #/# 2b0/h21 #/# h2/h 1/1 #/# h1/h #/# h##/#");
+    }
+
+    private static void wayAfterChange() {
+        PostChain x = Machines.short1();
+        x.rule(0, 0, 2, true, 4);
+        EXPECT.same("another rule", Ask.way(x), "#/#a# a#/2h# 2h/h #/# h##/#");
+        x.input(1, 0);
+        EXPECT.same("another input", Ask.way(x), "#/#a0# a0/2h #/# 2h/h #/# h##/#");
+        x.rule(0, 1, 1, false, 0);
+        EXPECT.same("more dominoes", Ask.way(x), "#/#a0# a0/2h #/# 2h/h #/# h##/#");
     }
 
     private static void wayOutside() {

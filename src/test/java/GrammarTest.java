@@ -13,14 +13,8 @@ public final class GrammarTest {
         EXPECT.end();
     }
 
-    /** The trees of a text with a row of copies: 2 if it reads so, else 0. */
-    private static int reads(PostChain x, String text) {
-        x.clear();
-        typeCopies(x, text);
-        return x.trees();
-    }
-
-    private static void typeCopies(PostChain x, String text) {
+    /** Lays the copying dominoes of a text: with just this text typed, there are two trees. */
+    private static void layCopies(PostChain x, String text) {
         for (char c : text.toCharArray()) {
             x.lay(1 + "#012".indexOf(c));
         }
@@ -55,14 +49,14 @@ public final class GrammarTest {
         PostChain parts = new PostChain();
         parts.type(Ask.part("01"));
         parts.type(Ask.part("2#"));
-        typeCopies(parts, "012#");
+        layCopies(parts, "012#");
         EXPECT.same("parts stand one behind the other", parts.trees(), 2);
     }
 
     private static void reads(String name, long part, String due) {
         PostChain x = new PostChain();
         EXPECT.yes(name, x.type(part));
-        typeCopies(x, due);
+        layCopies(x, due);
         EXPECT.same(name, x.trees(), 2);
     }
 
@@ -83,7 +77,7 @@ public final class GrammarTest {
 
     private static void bound() {
         PostChain x = new PostChain();
-        typeCopies(x, "0".repeat(60));
+        layCopies(x, "0".repeat(60));
         EXPECT.yes("56", Ask.type(x, "0".repeat(56)));
         EXPECT.no("64", x.type(Ask.part("00000000")));
         EXPECT.no("61", x.type(Ask.part("00000")));
@@ -93,6 +87,12 @@ public final class GrammarTest {
         EXPECT.no("61", x.type('0'));
         EXPECT.yes("nothing more", x.type(0));
         EXPECT.same("60 still", x.trees(), 2);
+        PostChain whole = new PostChain();
+        Ask.type(whole, "0".repeat(52));
+        EXPECT.yes("60 by a whole part", whole.type(Ask.part("00000000")));
+        PostChain more = new PostChain();
+        Ask.type(more, "0".repeat(53));
+        EXPECT.no("61 by a whole part", more.type(Ask.part("00000000")));
     }
 
     private static void treesOfEmpty() {
@@ -120,7 +120,10 @@ public final class GrammarTest {
         Ask.lay(x, 2, 3);
         Ask.type(x, "01");
         EXPECT.same("in the order of the tray", x.trees(), 2);
-        EXPECT.same("against the order of the tray", reads(x, "10") + trees(x, "01"), 0);
+        x.clear();
+        Ask.lay(x, 2, 3);
+        Ask.type(x, "10");
+        EXPECT.same("against the order of the tray", x.trees(), 0);
         x.clear();
         Ask.lay(x, 0, 5);
         Ask.type(x, "#0h");
@@ -129,11 +132,6 @@ public final class GrammarTest {
         Ask.lay(x, 0, 5);
         Ask.type(x, "#a#h");
         EXPECT.same("a row that does not fit, below", x.trees(), 1);
-    }
-
-    private static int trees(PostChain x, String text) {
-        Ask.type(x, text);
-        return x.trees();
     }
 
     private static void treesOfSolution() {
