@@ -1,6 +1,9 @@
 import java.util.ArrayList;
+import java.util.HashMap;
 import java.util.List;
+import java.util.Map;
 import java.util.function.IntUnaryOperator;
+import java.util.function.Supplier;
 
 /** Reads whole texts out of a PostChain, and writes whole texts and rows into it. */
 final class Ask {
@@ -28,14 +31,27 @@ final class Ask {
         return String.join(" ", texts);
     }
 
-    /** The dominoes of the way of the run, as upper/lower, with blanks between them. */
+    /**
+     * The dominoes of the way of the run, as upper/lower, with blanks between them. Each domino is read
+     * once, because an object is used for at most 512 calls.
+     */
     static String way(PostChain x) {
         List<String> texts = new ArrayList<>();
+        Map<Integer, String> read = new HashMap<>();
         int size = x.way(-1);
         for (int k = 0; k < size; k++) {
-            texts.add(dominoes(x, x.way(k), 1));
+            texts.add(read.computeIfAbsent(x.way(k), d -> dominoes(x, d, 1)));
         }
         return String.join(" ", texts);
+    }
+
+    /** What a call answers, or throws. */
+    static String answer(Supplier<Object> call) {
+        try {
+            return call.get().toString();
+        } catch (RuntimeException e) {
+            return "throws." + e.getClass().getSimpleName();
+        }
     }
 
     private static String text(IntUnaryOperator characters) {

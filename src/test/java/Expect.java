@@ -24,6 +24,10 @@ final class Expect {
         }
     }
 
+    void none(String call, long got) {
+        same(call, got, -1);
+    }
+
     void yes(String call, boolean got) {
         same(call, got ? 1 : 0, 1);
     }

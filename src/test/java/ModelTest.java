@@ -60,15 +60,7 @@ public final class ModelTest {
             return;
         }
         calls++;
-        expect.same(call, answer(got), due.get().toString());
-    }
-
-    private static String answer(Supplier<Object> call) {
-        try {
-            return call.get().toString();
-        } catch (RuntimeException e) {
-            return "throws." + e.getClass().getSimpleName();
-        }
+        expect.same(call, Ask.answer(got), due.get().toString());
     }
 
     private void act(boolean allStates) {
